@@ -714,7 +714,6 @@ public final class DotsOnGrass {
 
     /** Nobody comes from anywhere to PICTURE 0: no STEPS, and nobody near on the way. */
     void startAnywhere() {
-      apart = 0;
       Arrays.fill(steps, 0);
       Arrays.fill(pairs, CLEAR);
     }
@@ -748,7 +747,7 @@ public final class DotsOnGrass {
     }
 
     /** Recursion: each level is one turn, and there are at most as many as MARCHERS. */
-    void choose(Picture to, int turn, int used, int solosLeft, int greatest, int sum) {
+    private void choose(Picture to, int turn, int used, int solosLeft, int greatest, int sum) {
       if (solosLeft > turns - turn) {
         return;
       }
