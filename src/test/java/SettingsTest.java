@@ -127,15 +127,17 @@ public final class SettingsTest {
   }
 
   private static void promise15Apart(Due t) {
-    // they change sides: straight they meet at half, at HALF COUNT 1 of 2
+    // 0 can reach DOT 0 alone, so 1 has to pass it: at (10.5, 10) and (10, 10) half way
     DotsOnGrass d = room(2, 2);
     d.counts(1, 1);
+    d.bound(0, 1);
     d.line(0, 2, 10, 10, 2, 0);
-    put(d, 1, 12, 10);
-    put(d, 1, 10, 10);
-    d.solo(1, 0, true);
-    dueSet(t, "15: nobody goes", d, 1, 1, 0);
-    // 0 is bound to DOT 0 and 1 to DOT 1 by how far they may go, and they are 1 apart half way
+    put(d, 1, 11, 10);
+    put(d, 1, 8, 10);
+    dueSet(t, "15: one passes another one", d, 1, -3, -3);
+    d.rule(0, 0);
+    dueSet(t, "15: it may with APART 0", d, 1, 0, 1);
+    // 0 can reach DOT 0 alone: at (10.5, 10) and (11.5, 12) half way
     DotsOnGrass e = room(2, 2);
     e.counts(1, 1);
     e.line(0, 2, 10, 10, 2, 0);
