@@ -370,6 +370,13 @@ public final class DotsOnGrass {
     return part;
   }
 
+  /** By a loop, as the library's copies are for arrays of numbers. */
+  private static void copyFlags(boolean[] from, boolean[] to) {
+    for (int i = 0; i < to.length && i < from.length; i++) {
+      to[i] = from[i];
+    }
+  }
+
   private int draw(int picture) {
     Picture changed = now.album[picture];
     if (!changed.canTake(shape)) {
@@ -513,7 +520,7 @@ public final class DotsOnGrass {
       dots = other.dots;
       System.arraycopy(other.x, 0, x, 0, MOST_DOTS);
       System.arraycopy(other.y, 0, y, 0, MOST_DOTS);
-      System.arraycopy(other.isSolo, 0, isSolo, 0, MOST_DOTS);
+      copyFlags(other.isSolo, isSolo);
     }
 
     boolean hasDot(int dot) {
@@ -590,7 +597,7 @@ public final class DotsOnGrass {
 
     void become(Show other) {
       System.arraycopy(other.bounds, 0, bounds, 0, MOST_MARCHERS);
-      System.arraycopy(other.isIll, 0, isIll, 0, MOST_MARCHERS);
+      copyFlags(other.isIll, isIll);
       marchers = other.marchers;
       for (int p = 0; p < MOST_PICTURES; p++) {
         album[p].become(other.album[p]);

@@ -1,8 +1,13 @@
+import java.io.IOException;
 import java.lang.reflect.Constructor;
 import java.lang.reflect.Field;
 import java.lang.reflect.Method;
 import java.lang.reflect.Modifier;
+import java.nio.file.Files;
+import java.nio.file.Path;
+import java.util.ArrayList;
 import java.util.Arrays;
+import java.util.List;
 import java.util.Set;
 import java.util.TreeSet;
 
@@ -33,7 +38,36 @@ public final class FaceTest {
     t.due("NONE", -3, DotsOnGrass.NONE);
     t.due("PLACE", -4, DotsOnGrass.PLACE);
     t.due("ILL", -5, DotsOnGrass.ILL);
+    sourceTellsTheFace(t);
     t.end();
+  }
+
+  /** Names of parameters, the order, and what the interface says ahead of the calls. */
+  private static void sourceTellsTheFace(Due t) throws IOException {
+    String document = Files.readString(Path.of("../shared/DOC.md"));
+    int start = document.indexOf("```java");
+    List<String> want =
+        publicLines(document.substring(start, document.indexOf("```", start + 3)));
+    want.add(want.indexOf("public int marcher(int bound)"), "---- who and where");
+    want.add(want.indexOf("public int set(int picture, int marcher)"), "---- settings");
+    want.add(want.indexOf("public int keep()"), "---- kept");
+    List<String> got =
+        publicLines(Files.readString(Path.of("src/main/java/DotsOnGrass.java")));
+    t.due("lines of the face", 33, want.size());
+    t.due("the source's " + got + " are the document's " + want, want.equals(got));
+  }
+
+  /** The lines that begin with public, and the three that part them, without signs behind. */
+  private static List<String> publicLines(String text) {
+    List<String> lines = new ArrayList<>();
+    for (String line : text.split("\n")) {
+      String bare = line.trim().replaceFirst("^// ", "").replaceFirst("\\s*[;{]$", "");
+      boolean parts = List.of("---- who and where", "---- settings", "---- kept").contains(bare);
+      if (parts || bare.startsWith("public ")) {
+        lines.add(bare);
+      }
+    }
+    return lines;
   }
 
   private static void methods(Due t) {

@@ -1,6 +1,6 @@
 import java.util.Random;
 
-/** Random runs of calls: every answer of the class is that of the plain model. */
+/** Random runs of up to 512 calls: every answer of the class is that of the plain model. */
 public final class ModelTest {
   private static final int[] WRONG = {
     -1, -2, 5, 6, 7, 8, 16, 17, 20, 21, 33, 40, 41, 1000, Integer.MAX_VALUE, Integer.MIN_VALUE,
@@ -16,6 +16,7 @@ public final class ModelTest {
   private final int corner;
   private final int mostMarchers;
   private final int wrongPercent;
+  private int made = 0;
 
   private ModelTest(long seed, Due due) {
     random = new Random(seed);
@@ -38,9 +39,9 @@ public final class ModelTest {
 
   private void run() {
     int calls = 60 + random.nextInt(453);
-    for (int i = 0; i < calls; i++) {
+    while (made < calls) {
       int before = due.wrong();
-      if (i < 25 || random.nextInt(100) < 30) {
+      if (made < 25 || random.nextInt(100) < 30) {
         change();
       } else {
         ask();
@@ -82,6 +83,7 @@ public final class ModelTest {
       text.append(i == 0 ? "" : ", ").append(args[i]);
     }
     text.append(')');
+    made++;
     told.append(text).append(' ').append(want).append("; ");
     due.due(text.toString(), want, got);
   }
@@ -110,11 +112,11 @@ public final class ModelTest {
     }
   }
 
+  /** Where fewer are wanted than may come, others are refused, so that each turn makes a call. */
   private void comeMarcher() {
-    int bound = number(1, 4);
-    if (model.many(0) < mostMarchers || mostMarchers == 6) {
-      check("marcher", model.marcher(bound), real.marcher(bound), bound);
-    }
+    boolean mayCome = model.many(0) < mostMarchers || mostMarchers == 6;
+    int bound = mayCome ? number(1, 4) : 0;
+    check("marcher", model.marcher(bound), real.marcher(bound), bound);
   }
 
   private void shape() {
@@ -174,7 +176,7 @@ public final class ModelTest {
     int p = aPicture();
     int m = aMarcher();
     int what = number(0, 2);
-    switch (random.nextInt(9)) {
+    switch (random.nextInt(10)) {
       case 0:
         int d = number(0, 6);
         check("dot", model.dot(p, d, what), real.dot(p, d, what), p, d, what);
@@ -187,7 +189,7 @@ public final class ModelTest {
         check("steps", model.steps(p, what), real.steps(p, what), p, what);
         break;
       case 4:
-        int half = number(0, 8);
+        int half = number(0, random.nextBoolean() ? 8 : 32);
         int part = number(0, 3);
         check("way", model.way(p, m, half, part), real.way(p, m, half, part), p, m, half, part);
         break;
@@ -201,10 +203,12 @@ public final class ModelTest {
       case 7:
         check("hole", model.hole(m), real.hole(m), m);
         break;
+      case 8:
+        check("ready", model.ready(), real.ready());
+        break;
       default:
         int all = number(0, 5);
         check("many", model.many(all), real.many(all), all);
-        check("ready", model.ready(), real.ready());
         break;
     }
   }
